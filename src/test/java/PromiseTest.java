@@ -204,6 +204,14 @@ public final class PromiseTest {
         dueGives(x, "7 behind the third point", 302, 147);
         dueGives(x, "7 at the last point", 400, 0);
         dueGives(x, "7 behind the last point", 401, 0);
+        x.fan(500, 0);
+        dueGives(x, "7 behind the last of five points", 501, 0);
+        DuctSizes level = twoNodes();
+        for (int point = 1; point <= 5; point++) {
+            level.fan(point, 200);
+        }
+        dueGives(level, "7 at the fifth point", 5, 200);
+        dueGives(level, "7 behind the fifth point", 6, 0);
     }
 
     private static void givesRoundsTheQuotientUp() {
