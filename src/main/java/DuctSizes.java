@@ -310,13 +310,15 @@ public final class DuctSizes {
             placeFrom(1, 0, 0);
         }
 
+        // Node 0 counts too: its pressure is 0, and that is the greatest one if no duct has a fall.
         int firstNodeOfGreatestPressure() {
+            int first = 0;
             for (int node = 1; node <= network.ducts; node++) {
-                if (pressureAt[node] == pressure) {
-                    return node;
+                if (pressureAt[node] > pressureAt[first]) {
+                    first = node;
                 }
             }
-            return 0;
+            return first;
         }
 
         private void noteFalls() {

@@ -3,26 +3,43 @@ import java.lang.reflect.Executable;
 import java.lang.reflect.Field;
 import java.lang.reflect.Method;
 import java.lang.reflect.Modifier;
-import java.util.Arrays;
 import java.util.TreeSet;
 
 /** The class shows the document's face and no other member (LANGUAGE.md, rule 1). */
 public final class FaceTest {
-    private static final String ARGUMENT = " throws [IllegalArgumentException]";
-    private static final String BOTH = " throws [IllegalArgumentException, IllegalStateException]";
-    private static final String NOTHING = " throws []";
+    private static final String[] FACE = {
+        "public static final int NONE",
+        "public DuctSizes() throws []",
+        "public int duct(int int int) throws [IllegalArgumentException, IllegalStateException]",
+        "public int need(int int) throws [IllegalArgumentException]",
+        "public int size(int int) throws [IllegalArgumentException, IllegalStateException]",
+        "public int set(int int) throws [IllegalArgumentException]",
+        "public int fan(int int) throws [IllegalArgumentException, IllegalStateException]",
+        "public int gives() throws []",
+        "public int flow(int) throws [IllegalArgumentException]",
+        "public int told(int int int) throws [IllegalArgumentException]",
+        "public int best(int) throws [IllegalArgumentException]",
+        "public int chosen(int) throws [IllegalArgumentException]",
+        "public int pressure(int) throws [IllegalArgumentException]",
+        "public int damper(int) throws [IllegalArgumentException]",
+        "public int least(int) throws [IllegalArgumentException]",
+        "public int worst() throws []",
+    };
 
     private FaceTest() {
     }
 
     public static void main(String[] args) {
-        TreeSet<String> want = new TreeSet<>(Arrays.asList(
-            "int NONE", "new/0" + NOTHING, "duct/3" + BOTH, "need/2" + ARGUMENT, "size/2" + BOTH,
-            "set/2" + ARGUMENT, "fan/2" + BOTH, "gives/0" + NOTHING, "flow/1" + ARGUMENT,
-            "told/3" + ARGUMENT, "best/1" + ARGUMENT, "chosen/1" + ARGUMENT, "pressure/1" + ARGUMENT,
-            "damper/1" + ARGUMENT, "least/1" + ARGUMENT, "worst/0" + NOTHING));
+        TreeSet<String> want = new TreeSet<>();
+        for (String member : FACE) {
+            want.add(member);
+        }
+        Check.sentence("The public face");
         Check.compare("the face", want.toString(), visible().toString());
         Check.compare("the class", "public final", Modifier.toString(DuctSizes.class.getModifiers()));
+        Check.compare("what it extends", "Object", DuctSizes.class.getSuperclass().getSimpleName());
+        Check.compare("what it implements", "0", "" + DuctSizes.class.getInterfaces().length);
+        classesInside();
         Check.end();
     }
 
@@ -30,18 +47,34 @@ public final class FaceTest {
         TreeSet<String> seen = new TreeSet<>();
         for (Field field : DuctSizes.class.getDeclaredFields()) {
             if (!Modifier.isPrivate(field.getModifiers())) {
-                seen.add(field.getType() + " " + field.getName());
+                seen.add(Modifier.toString(field.getModifiers()) + " " + field.getType() + " " + field.getName());
             }
         }
         for (Constructor<?> made : DuctSizes.class.getDeclaredConstructors()) {
-            seen.add(told("new", made));
+            seen.add(told("DuctSizes", made));
         }
+        TreeSet<String> hidden = new TreeSet<>();
         for (Method method : DuctSizes.class.getDeclaredMethods()) {
-            if (!Modifier.isPrivate(method.getModifiers())) {
-                seen.add(told(method.getName(), method));
+            if (Modifier.isPrivate(method.getModifiers())) {
+                hidden.add(method.getName());
+            } else {
+                seen.add(told(method.getReturnType() + " " + method.getName(), method));
+            }
+        }
+        for (String name : hidden) {
+            for (String member : FACE) {
+                Check.compare(name + " is private and public", "false", "" + member.contains(" " + name + "("));
             }
         }
         return seen;
+    }
+
+    private static void classesInside() {
+        for (Class<?> inside : DuctSizes.class.getDeclaredClasses()) {
+            int how = inside.getModifiers();
+            boolean closed = !Modifier.isPublic(how) && !Modifier.isProtected(how);
+            Check.compare(inside.getName() + " is static and not open", "true", "" + (closed && Modifier.isStatic(how)));
+        }
     }
 
     private static String told(String name, Executable call) {
@@ -49,6 +82,10 @@ public final class FaceTest {
         for (Class<?> one : call.getExceptionTypes()) {
             thrown.add(one.getSimpleName());
         }
-        return name + "/" + call.getParameterCount() + " throws " + thrown;
+        StringBuilder types = new StringBuilder();
+        for (Class<?> one : call.getParameterTypes()) {
+            types.append(types.length() == 0 ? "" : " ").append(one.getSimpleName());
+        }
+        return Modifier.toString(call.getModifiers()) + " " + name + "(" + types + ") throws " + thrown;
     }
 }

@@ -4,8 +4,16 @@ import java.util.function.IntSupplier;
 final class Check {
     private static int wrong = 0;
     private static int asked = 0;
+    private static int sentences = 0;
+    private static String sentence = "";
 
     private Check() {
+    }
+
+    /** The document's words that the checks behind this call stand for, until the next such call. */
+    static void sentence(String words) {
+        sentences++;
+        sentence = " [" + words + "]";
     }
 
     static void due(String call, int want, IntSupplier asking) {
@@ -33,12 +41,13 @@ final class Check {
         asked++;
         if (!got.equals(want)) {
             wrong++;
-            System.out.println(call + " answered " + got + ", due is " + want);
+            System.out.println(call + " answered " + got + ", due is " + want + sentence);
         }
     }
 
     static void end() {
-        System.out.println(asked + " answers, " + wrong + " not as due");
+        String of = sentences == 0 ? "" : " for " + sentences + " sentences";
+        System.out.println(asked + " answers" + of + ", " + wrong + " not as due");
         if (wrong != 0) {
             System.exit(1);
         }
