@@ -574,6 +574,7 @@ public final class PromiseTest {
         x.duct(4, 1, 1);
         x.duct(5, 1, 1);
         Check.due("the sixth", 6, () -> x.worst());
+        Check.due("the only duct", 1, () -> Made.oneDuct().worst());
     }
 
     private static void worstIsTheLeastOfSeveral() {
@@ -588,6 +589,11 @@ public final class PromiseTest {
         Check.due("a node before one below it without a fall", 2, () -> x.worst());
         x.duct(3, 1, 1);
         Check.due("node 5 alone", 5, () -> x.worst());
+        DuctSizes even = new DuctSizes();
+        even.size(1, 1);
+        even.duct(0, 1, 1);
+        even.duct(0, 1, 1);
+        Check.due("node 1 before node 2", 1, () -> even.worst());
         // Node 0 is a node and has the pressure 0, so it is the least if all have that.
         DuctSizes flat = Made.row(1, 0);
         flat.size(1, 1);
