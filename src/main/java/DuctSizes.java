@@ -83,6 +83,8 @@ public final class DuctSizes {
         return curve.pressureAt(network.flows[0]);
     }
 
+    // ---- ducts
+
     public int flow(int duct) throws IllegalArgumentException {
         demand(duct, 1, network.ducts);
         return network.flows[duct];
@@ -94,6 +96,8 @@ public final class DuctSizes {
         demand(what, 0, 1);
         return what == 0 ? network.speedOf(duct, size) : network.fallOf(duct, size);
     }
+
+    // ---- the best choice
 
     public int best(int what) throws IllegalArgumentException {
         demand(what, 0, 1);
